@@ -7,6 +7,30 @@ final class Bench {
 
     final KermitLine x = new KermitLine();
 
+    /** CHECK 1 and no RUNS; END 0 has FILES of these bytes, named F0, F1 .., with DATES 10, 11 .., and has sent S. */
+    static Bench sending(int capas, int window, String... files) {
+        Bench b = new Bench().setBoth(2, 1).setBoth(3, 32).setBoth(4, capas).setBoth(5, window);
+        for (int i = 0; i < files.length; i++) {
+            b.store(0, "F" + i, files[i], 10 + i);
+        }
+        b.x.send(0, 0, files.length);
+        return b;
+    }
+
+    /** One packet to END 1 and one to END 0, so many times. */
+    static Bench rounds(Bench b, int n) {
+        for (int i = 0; i < n; i++) {
+            b.x.deliver(1);
+            b.x.deliver(0);
+        }
+        return b;
+    }
+
+    /** Bytes that go into so many D's of CHECK 1 and MAXL 94. */
+    static String fill(int packets) {
+        return "x".repeat(91 * packets);
+    }
+
     static void same(String what, Object got, Object due) {
         checks++;
         if (!String.valueOf(got).equals(String.valueOf(due))) {

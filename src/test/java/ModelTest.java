@@ -4,7 +4,7 @@ import java.util.TreeMap;
 
 /** Long random runs: every answer of the program is held against the slow Model's. All promises, 1 to 16. */
 public final class ModelTest {
-    private static final int RUNS = 600;
+    private static final int RUNS = 500;
     private static final int[] EDGES = {-2147483648, -2, -1, 2, 3, 8, 16, 18, 31, 100, 2147483647};
     private static final int[][] FIRST = {{24, 25, 30, 50, 94}, {78, 89, 38}, {1, 2, 3}, {126, 126, 32},
         {0, 4, 8, 12, 32, 36, 40, 44}, {1, 2, 3, 5, 8, 16, 31}, {1, 2, 5, 20}};
