@@ -5,7 +5,20 @@ final class Bench {
     private static int wrong = 0;
     private static int checks = 0;
 
-    final KermitLine x = new KermitLine();
+    final Renewed x;
+
+    Bench() {
+        this(new Renewed());
+    }
+
+    private Bench(Renewed x) {
+        this.x = x;
+    }
+
+    /** Another object to which the same has happened. */
+    Bench copy() {
+        return new Bench(x.copy());
+    }
 
     /** CHECK 1 and no RUNS; END 0 has FILES of these bytes, named F0, F1 .., with DATES 10, 11 .., and has sent S. */
     static Bench sending(int capas, int window, String... files) {
@@ -109,6 +122,17 @@ final class Bench {
         return text.toString();
     }
 
+    /** SEQ, TYPE and DATA (if any) of all packets to an END that have a CHECK of so many bytes, such as "3Y 4Y(N)". */
+    String texts(int end, int check) {
+        StringBuilder text = new StringBuilder();
+        for (int k = 0; k < x.line(end); k++) {
+            String data = data(end, k, check);
+            text.append(k == 0 ? "" : " ").append(x.look(end, k, 2) - 32).append((char) x.look(end, k, 3));
+            text.append(data.isEmpty() ? "" : "(" + data + ")");
+        }
+        return text.toString();
+    }
+
     /** DATA of a packet that has a CHECK of so many bytes. */
     String data(int end, int k, int check) {
         String p = packet(end, k);
@@ -116,7 +140,9 @@ final class Bench {
     }
 
     void put(int end, int k, int i, int b) {
-        x.spoil(end, k, i, x.look(end, k, i) ^ b);
+        if (x.look(end, k, i) != b) {
+            x.spoil(end, k, i, x.look(end, k, i) ^ b);
+        }
     }
 
     /** Makes other SEQ, TYPE and DATA (cut or filled up with blanks) of a packet, and its CHECK right. */
@@ -145,9 +171,44 @@ final class Bench {
     }
 
     void clear(int end) {
-        while (x.lose(end, 0)) {
-            continue;
+        for (int k = x.line(end); k > 0; k--) {
+            x.lose(end, 0);
         }
+    }
+
+    /**
+     * A packet without DATA comes to END 0 while END 1 receives: the N of END 1's timer, with another SEQ and TYPE.
+     * What was on the line to END 0 is lost.
+     */
+    int reply(int seq, char type, int check) {
+        clear(0);
+        x.timer(1);
+        put(0, 0, 2, seq + 32);
+        alter(0, 0, 3, type, check);
+        return x.deliver(0);
+    }
+
+    /** All that can be seen of both ENDS, the line and the tape; SETTINGS only of an END that is at rest. */
+    String all() {
+        StringBuilder text = new StringBuilder();
+        Bench other = copy();
+        int[] first = {94, 89, 3, 126, 44, 8, 5};
+        for (int end = 0; end < 2; end++) {
+            for (int what = 0; what < 18; what++) {
+                text.append(x.about(end, what)).append(' ');
+            }
+            for (int what = 0; what < first.length; what++) {
+                text.append(other.x.set(end, what, first[what])).append(' ');
+            }
+            for (int file = 0; file < x.about(end, 16); file++) {
+                text.append(name(end, file)).append(' ').append(x.told(end, file, 1)).append(' ').append(x.told(end, file, 3));
+                text.append(' ').append(content(end, file)).append(' ');
+            }
+            for (int k = 0; k < x.line(end); k++) {
+                text.append(packet(end, k));
+            }
+        }
+        return text.append(other.x.feed(0, 0, 0, 0, 0)).toString();
     }
 
     /** Delivers all, first to END 1, until nothing is on the line. */

@@ -4,7 +4,9 @@ import java.util.TreeMap;
 
 /** Long random runs: every answer of the program is held against the slow Model's. All promises, 1 to 16. */
 public final class ModelTest {
-    private static final int RUNS = 500;
+    private static final int RUNS = 600;
+    /** Calls that change something; the rest up to 512 is left to look at what came of them. */
+    private static final int CHANGES = 440;
     private static final int[] EDGES = {-2147483648, -2, -1, 2, 3, 8, 16, 18, 31, 100, 2147483647};
     private static final int[][] FIRST = {{24, 25, 30, 50, 94}, {78, 89, 38}, {1, 2, 3}, {126, 126, 32},
         {0, 4, 8, 12, 32, 36, 40, 44}, {1, 2, 3, 5, 8, 16, 31}, {1, 2, 5, 20}};
@@ -12,7 +14,7 @@ public final class ModelTest {
     private static final TreeMap<String, Integer> SEEN = new TreeMap<>();
 
     private final Bench bench = new Bench();
-    private final KermitLine x = bench.x;
+    private final Renewed x = bench.x;
     private final Model m = new Model();
     private final Random random;
     private final int run;
@@ -55,7 +57,9 @@ public final class ModelTest {
     }
 
     private int same(String call, int got, int due) {
-        log.append(call).append(" -> ").append(due).append('\n');
+        if (!call.startsWith("about") && !call.startsWith("line")) {
+            log.append(call).append(" -> ").append(due).append('\n');
+        }
         Bench.same("run " + run + ": " + call, got, due);
         if (got != due) {
             broken = true;
@@ -86,9 +90,10 @@ public final class ModelTest {
         prepare();
         int calls = 60 + pick(400);
         int calm = pick(3);
-        for (int i = 0; i < calls && !broken; i++) {
+        for (int i = 0; i < calls && x.changes() < CHANGES && !broken; i++) {
             step(calm);
-            if (i % 7 == 0) {
+            compareEnds();
+            if (i % 50 == 0) {
                 compareAll();
             }
         }
@@ -153,7 +158,9 @@ public final class ModelTest {
         return text.toString();
     }
 
-    private void storeSome(int end, int n) {
+    private void storeSome(int end, int most) {
+        // Twenty bytes are a call: what is fed at the beginning leaves calls for what follows.
+        int n = Math.min(most, Math.max(40, 20 * (CHANGES / 2 - x.changes())));
         StringBuilder name = new StringBuilder();
         int signs = 1 + pick(12);
         for (int i = 0; i < signs; i++) {
@@ -215,7 +222,7 @@ public final class ModelTest {
         } else if (dice < 58) {
             callSet(end, small(7), pick(2) == 0 ? small(45) : FIRST[pick(7)][0]);
         } else if (dice < 60) {
-            storeSome(pick(2), pick(4) == 0 ? pick(3100) : pick(40));
+            storeSome(pick(2), pick(4) == 0 ? pick(3090) : pick(40));
         } else if (dice < 61) {
             int f = small(4);
             same("drop(" + end + ", " + f + ")", bit(x.drop(end, f)), bit(m.drop(end, f)));
@@ -259,19 +266,25 @@ public final class ModelTest {
         }
     }
 
+    private void compareEnds() {
+        for (int end = 0; end < 2 && !broken; end++) {
+            for (int what = 0; what < 18; what++) {
+                same("about(" + end + ", " + what + ")", x.about(end, what), m.about(end, what));
+            }
+            same("line(" + end + ")", x.line(end), m.line(end));
+            note(end);
+        }
+    }
+
     private void compareAll() {
         for (int end = 0; end < 2 && !broken; end++) {
-            final int e = end;
-            for (int w = -1; w <= 18; w++) {
-                final int what = w;
-                sameOrThrown("about(" + e + ", " + what + ")", () -> x.about(e, what), () -> m.about(e, what));
-            }
-            compareLine(e);
-            compareStore(e);
-            note(e);
+            compareLine(end);
+            compareStore(end);
         }
         final int wrongEnd = EDGES[pick(4)];
+        final int wrongWhat = EDGES[random.nextInt(EDGES.length)];
         sameOrThrown("about(" + wrongEnd + ", 0)", () -> x.about(wrongEnd, 0), () -> m.about(wrongEnd, 0));
+        sameOrThrown("about(0, " + wrongWhat + ")", () -> x.about(0, wrongWhat), () -> m.about(0, wrongWhat));
     }
 
     private void compareLine(int end) {

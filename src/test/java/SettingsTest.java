@@ -33,7 +33,7 @@ public final class SettingsTest {
         for (int what = 0; what < 7; what++) {
             Bench b = new Bench();
             int stands = FIRST[what];
-            for (int v = -300; v <= 300; v++) {
+            for (int v = -200; v <= 300; v++) {
                 Bench.same("set(1, " + what + ", " + v + ")", b.x.set(1, what, v), isAllowed(what, v) ? stands : -1);
                 stands = isAllowed(what, v) ? v : stands;
             }
