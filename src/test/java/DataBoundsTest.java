@@ -5,12 +5,15 @@ public final class DataBoundsTest {
     public static void main(String[] args) {
         runs();
         runsOfOtherBytes();
+        theFilesEnd();
         noRuns();
         stretches();
         stretchesBack();
+        stretchesAtTheBound();
         stretchesWithoutPrefix();
         stretchesOverPackets();
         runsInStretches();
+        agreedByBoth();
         everySign();
         wholeItems();
         runsAreNotCut();
@@ -67,12 +70,38 @@ public final class DataBoundsTest {
 
     private static void runsOfOtherBytes() {
         say(bench(false, true, false), "aaabbbbcccdddd", "aaa~$bccc~$d");
+        say(bench(false, true, false), "abaaaa", "ab~$a");
+        say(bench(false, true, false), "abaaabaabaaa", "abaaabaabaaa");
+        say(bench(false, true, false), "aabaaaabaa", "aab~$abaa");
+        say(bench(false, true, false), "aaabaaaba", "aaabaaaba");
         say(bench(false, true, false), "~~~", "#~#~#~");
         say(bench(false, true, false), "~~~~", "~$#~");
         say(bench(false, true, false), "\0\0\0\u0001\u0001\u0001\u0001", "#@#@#@~$#A");
         say(bench(true, true, false), "\u00e1\u00e1\u00e1", "&a&a&a");
         say(bench(true, true, false), "\u00e1\u00e1\u00e1\u00e1", "~$&a");
         say(bench(true, true, false), "aa\u00e1\u00e1aa\u00e1\u00e1", "aa&a&aaa&a&a");
+    }
+
+    /** A run and a stretch end where the FILE does, though the next FILE goes on in the same way. */
+    private static void theFilesEnd() {
+        Bench runs = bench(false, true, false);
+        runs.store(0, "A", "xxx", 1);
+        runs.store(0, "B", "xxxx", 1);
+        runs.store(0, "C", "x", 1);
+        Bench stretches = bench(true, false, true);
+        stretches.store(0, "A", "\u00c1\u00c2\u00c3", 1);
+        stretches.store(0, "B", "\u00c1\u00c2\u00c3\u00c4", 1);
+        stretches.store(0, "C", "\u00c5", 1);
+        String[][] due = {{"xxx", "~$x", "x"}, {"&A&B&C", "#NABCD", "&E"}};
+        for (int i = 0; i < 2; i++) {
+            Bench b = i == 0 ? runs : stretches;
+            b.x.send(0, 0, 3);
+            Bench.rounds(b, 2);
+            for (String data : due[i]) {
+                Bench.same("DATA of a FILE among others", b.texts(1, 1), b.x.look(1, 0, 2) - 32 + "D(" + data + ")");
+                Bench.rounds(b, 3);
+            }
+        }
     }
 
     private static void noRuns() {
@@ -103,6 +132,16 @@ public final class DataBoundsTest {
         }
     }
 
+    /** h is b / 128: 127 and 128 are beside one another. */
+    private static void stretchesAtTheBound() {
+        say(bench(true, false, true), "\u0080\u0080\u0080\u0080", "#N#@#@#@#@");
+        say(bench(true, false, true), "\u0080\u0080\u0080", "&#@&#@&#@");
+        say(bench(true, false, true), "\u00ff\u0080\u0081\u00fe\177\176\0", "#N#?#@#A~&#?&~&#@");
+        say(bench(true, false, true), "\u0080\u0080\u0080\177", "&#@&#@&#@#?");
+        say(bench(true, false, true), "\u00c1\u00c1\u00c1\u00c1\177\177\177\177\u0080", "#NAAAA#O#?#?#?#?&#@");
+        say(bench(true, false, true), "\u00c1\u00c1\u00c1\u00c1\177\177\177\u0080", "#NAAAA&#?&#?&#?#@");
+    }
+
     private static void stretchesWithoutPrefix() {
         say(bench(false, false, true), "a\u00c1b\u00c2\u00c3c", "a#NA#Ob#NBC#Oc");
         say(bench(false, false, true), "\u00c1\u00c2\u00c3\u00c4a", "#NABCD#Oa");
@@ -127,6 +166,31 @@ public final class DataBoundsTest {
         say(bench(true, true, true), "\u00c1\u00c2\u00c2\u00c2\u00c2", "#NA~$B");
         say(bench(true, true, true), "\u00c1\u00c1\u00c1\u00c1aaaa", "#N~$A#O~$a");
         say(bench(false, true, true), "\u00c1\u00c1\u00c1aaaa", "#NAAA#O~$a");
+    }
+
+    /** What only one END has is not agreed on: PREFIX, RUNS, locking shifts. */
+    private static void agreedByBoth() {
+        int[] qbin = {78, 89, 38};
+        for (int mine : qbin) {
+            for (int his : qbin) {
+                Bench b = bench(false, false, false);
+                b.x.set(0, 1, mine);
+                b.x.set(1, 1, his);
+                boolean prefix = mine == 38 && his != 78 || his == 38 && mine != 78;
+                Bench.same("QBIN " + mine + ", " + his, spelled(b, "&\u00c1"), prefix ? "#&&A" : "&A");
+                Bench.same("as it is read", b.content(1, 0), prefix ? "&\u00c1" : "&A");
+            }
+        }
+        for (int bits = 0; bits < 4; bits++) {
+            Bench runs = bench(false, false, false);
+            runs.x.set(0, 3, (bits & 1) != 0 ? 126 : 32);
+            runs.x.set(1, 3, (bits & 2) != 0 ? 126 : 32);
+            say(runs, "aaaa~", bits == 3 ? "~$a#~" : "aaaa~");
+            Bench shifts = bench(false, false, false);
+            shifts.x.set(0, 4, (bits & 1) * 32);
+            shifts.x.set(1, 4, (bits & 2) * 16);
+            Bench.same("bit 32 of " + bits, spelled(shifts, "\u00c1\16"), bits == 3 ? "#NA#O#P#N" : "A#N");
+        }
     }
 
     /** What one byte is told by: worked out from the document's words, for every byte under every mix. */
@@ -228,16 +292,16 @@ public final class DataBoundsTest {
         Bench two = bench(false, false, true);
         two.store(0, "A", "\u00c1", 1);
         two.store(0, "B", "\u00c2", 1);
-        two.store(0, "C", "c", 1);
+        two.store(0, "C", "cd", 1);
         two.x.send(0, 0, 3);
         Bench.rounds(two, 2);
         Bench.same("the first FILE", two.data(1, 0, 1), "#NA");
         Bench.rounds(two, 3);
         Bench.same("the second", two.data(1, 0, 1), "#NB");
         Bench.rounds(two, 3);
-        Bench.same("the third", two.data(1, 0, 1), "c");
+        Bench.same("the third", two.data(1, 0, 1), "cd");
         two.settle();
-        Bench.same("as they are read", two.content(1, 0) + two.content(1, 1) + two.content(1, 2), "\u00c1\u00c2c");
+        Bench.same("as they are read", two.content(1, 0) + two.content(1, 1) + two.content(1, 2), "\u00c1\u00c2cd");
     }
 
     /** END 1 has begun a FILE; then D's of this DATA come. */

@@ -180,6 +180,14 @@ public final class FilesBoundsTest {
             Bench.same("bytes", b.x.about(0, 17), is ? 10 - file - 1 : 10);
             Bench.same("nothing was done if it was refused", is || b.all().equals(before), true);
         }
+        // A new FILE has nothing of one that went.
+        Bench again = new Bench();
+        again.store(0, "LONGEST.NAME", "abcdef", 99999999);
+        again.store(0, "B", "ghi", 5);
+        again.x.drop(0, 0);
+        again.store(0, "C", "jk", 0);
+        Bench.same("a FILE behind one that went", again.name(0, 1) + again.content(0, 1) + again.x.told(0, 1, 0) + again.x.told(0, 1, 1), "Cjk20");
+        Bench.same("the one ahead of it", again.name(0, 0) + again.content(0, 0) + again.x.told(0, 0, 0) + again.x.told(0, 0, 1), "Bghi35");
         Bench none = new Bench();
         Bench.same("of an empty STORE", none.x.drop(0, 0) + " " + none.x.drop(0, -1) + " " + none.x.drop(1, 0), "false false false");
     }

@@ -7,6 +7,7 @@ public final class ReceiverBoundsTest {
         eachStateWhileItWaits();
         eachStateAsAReceiver();
         eachStateAsASender();
+        othersOfEachSeq();
         startParameters();
         startLengths();
         startOfEachSeq();
@@ -22,6 +23,7 @@ public final class ReceiverBoundsTest {
         failsInARow();
         doneInARow();
         yesAgainOfAttributes();
+        yesOfASeqThatComesAgain();
         names();
         eightFiles();
         attributesTold();
@@ -146,6 +148,29 @@ public final class ReceiverBoundsTest {
         }
     }
 
+    /** "Others: if it is FRESH, FAILED, or DONE as a sender: nothing": whatever the SEQ. */
+    private static void othersOfEachSeq() {
+        Bench fresh = Bench.sending(44, 8, "a");
+        Bench failed = Script.plain(4, 8, "1F:A", "2X:", "3D:01234567890").toLast().b;
+        Bench done = Bench.sending(44, 8, "a");
+        done.store(1, "B", "b", 1);
+        done.settle();
+        done.x.send(1, 0, 1);
+        for (int seq = 0; seq < 64; seq++) {
+            Bench.same("FRESH, SEQ " + seq, ofSeq(fresh, 1, seq), "0 0 0");
+            Bench.same("FAILED, SEQ " + seq, ofSeq(failed, 1, seq), "0 4 3");
+            Bench.same("DONE as a sender, SEQ " + seq, ofSeq(done, 0, seq), "0 3 6");
+        }
+    }
+
+    private static String ofSeq(Bench bench, int end, int seq) {
+        Bench b = bench.copy();
+        b.clear(1 - end);
+        b.forge(end, 0, seq, 'D', OFFER, 1);
+        Bench.same("it is GOOD", b.x.deliver(end), seq);
+        return b.x.line(1 - end) + " " + b.about(end, 0, 2);
+    }
+
     // ---- S
 
     /** "if its DATA are right (4.)": every byte. */
@@ -207,6 +232,9 @@ public final class ReceiverBoundsTest {
         s.next();
         Bench.same("all is gone", s.b.about(1, 0, 2, 3, 16, 17), "2 10 0 0 0");
         Bench.same("a FILE may begin", s.next() + s.b.name(1, 0), "10YB");
+        for (int seq : new int[] {0, 27, 28, 29, 59, 60, 61, 62, 63}) {
+            keptAheadOfStart(seq);
+        }
         Bench full = new Bench();
         full.store(1, "OLD", "x".repeat(2998), 1);
         Script refused = new Script(full, 0, 1, Script.offer(1, false, false, 12, 8), "1F:A", "2A:1!3#(00000001", "9S:" + OFFER, "10F:B", "11A:1!2#(00000001");
@@ -214,6 +242,21 @@ public final class ReceiverBoundsTest {
         Bench.same("refused", refused.next(), "2Y(N)");
         refused.next();
         Bench.same("a FILE may begin", refused.next() + " " + refused.next() + " " + refused.b.about(1, 0, 16), "10Y 11Y(Y) 2 2");
+    }
+
+    /** S has a SEQ, and comes once more with it when two behind are kept. */
+    private static void keptAheadOfStart(int seq) {
+        int[] q = new int[6];
+        for (int i = 0; i < q.length; i++) {
+            q[i] = (seq + i) % 64;
+        }
+        Script s = new Script(new Bench(), seq, 1, OFFER, q[1] + "F:A", q[3] + "D:old", q[4] + "D:old", q[0] + "S:" + OFFER, q[1] + "F:B", q[2] + "D:new", q[3] + "D:new", q[5] + "D:new");
+        for (int i = 0; i < 5; i++) {
+            s.next();
+        }
+        Bench.same("what was kept is not taken", s.next() + " " + s.b.about(1, 2, 3, 17), q[2] + "Y " + q[3] + " 0 3");
+        Bench.same("the next one is", s.next() + " " + s.b.about(1, 2, 3, 17), q[3] + "Y " + q[4] + " 0 6");
+        Bench.same("and none is kept but this", s.next() + " " + s.b.about(1, 2, 3) + s.b.content(1, 0), q[5] + "Y " + q[4] + "N " + q[4] + " 1newnew");
     }
 
     /** FILES that END 1 had stay when S comes. */
@@ -382,11 +425,43 @@ public final class ReceiverBoundsTest {
         b.store(1, "OLD", "x".repeat(2998), 1);
         Script done = new Script(b, 0, 1, Script.offer(1, false, false, 12, 8), "1F:A", "2A:1!3#(00000001", "3Z:D", "4B:", "2A:1!3#(00000001");
         Bench.same("also if it is DONE", done.last() + " " + done.b.about(1, 0), "2Y(N) 3");
+        Bench zero = new Bench();
+        zero.store(1, "OLD", "x".repeat(2998), 1);
+        Script round = new Script(zero, 62, 1, Script.offer(1, false, false, 12, 8), "63F:A", "0A:1!3#(00000001", "0A:1!3#(00000001", "1Z:D", "0A:1!3#(00000001");
+        String[] due = {"63Y", "0Y(N)", "0Y(N)", "1Y", "0Y(N)"};
+        for (String d : due) {
+            Bench.same("SEQ 0", round.next(), d);
+        }
+        Script never = Script.plain(12, 8, "0A:1!3#(00000001", "63A:1!3#(00000001", "57A:1!3#(00000001", "56A:1!3#(00000001");
+        Bench.same("an A that was never refused", never.next() + " " + never.next() + " " + never.next() + "|" + never.next(), "0Y(Y) 63Y(Y) 57Y(Y)|");
         Script other = Script.plain(12, 8, "1F:A", "2A:1!3#(00000001", "3Z:", "1F:A", "3Z:", "2A:1!3#(00000001");
         for (int i = 0; i < 3; i++) {
             other.next();
         }
         Bench.same("Y of others has none", other.next() + " " + other.next() + " " + other.next(), "1Y 3Y 2Y(Y)");
+    }
+
+    /** A SEQ comes again behind 63: an A with room under the SEQ of one that was refused. */
+    private static void yesOfASeqThatComesAgain() {
+        Bench b = new Bench().setBoth(2, 1).setBoth(3, 32).setBoth(4, 8);
+        b.x.set(1, 0, 24);
+        b.store(0, "A", "x".repeat(1600), 1);
+        b.store(0, "B", "x".repeat(21 * 58), 1);
+        b.store(0, "C", "c", 1);
+        b.store(1, "OLD", "x".repeat(1500), 1);
+        b.x.send(0, 0, 3);
+        Bench.rounds(b, 2);
+        b.x.deliver(1);
+        Bench.same("the first is refused", b.texts(0, 1), "2Y(N)");
+        b.x.deliver(0);
+        Bench.rounds(b, 63);
+        Bench.same("SEQ 2 again", b.heads(1), "2A");
+        b.x.twice(1, 0);
+        b.x.deliver(1);
+        b.x.deliver(1);
+        Bench.same("the third is not", b.texts(0, 1), "2Y(Y) 2Y(Y)");
+        b.settle();
+        Bench.same("both DONE", b.about(0, 0, 4, 5) + " " + b.about(1, 0, 4, 5, 16), "3 2 1 3 2 1 3");
     }
 
     // ---- F

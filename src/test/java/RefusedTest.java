@@ -31,6 +31,7 @@ public final class RefusedTest {
         Bench done = started.copy();
         done.settle();
         Bench abandoned = Bench.rounds(started.copy(), 3);
+        abandoned.x.timer(1);
         for (int i = 0; i < 6; i++) {
             abandoned.x.timer(0);
         }
@@ -172,6 +173,7 @@ public final class RefusedTest {
 
     /** "or one END is sending (1), or this one waits or receives (2)"; else S is sent, and what is on the line is gone. */
     private static void sendOfEachState() {
+        boolean packetsBothWays = false;
         for (Bench scene : scenes()) {
             for (int end = 0; end < 2; end++) {
                 Bench b = scene.copy();
@@ -179,6 +181,7 @@ public final class RefusedTest {
                 int other = b.x.about(1 - end, 0);
                 boolean may = state != 1 && state != 2 && other != 1;
                 String before = b.all();
+                packetsBothWays |= may && b.x.line(0) > 0 && b.x.line(1) > 0;
                 String others = b.about(1 - end, 0, 1, 2, 3, 4, 5, 6, 7, 8, 9, 10, 11, 12, 13, 14, 15, 16, 17);
                 Bench.same("send in state " + state + ", the other in " + other, b.x.send(end, 0, 1), may);
                 if (!may) {
@@ -190,5 +193,6 @@ public final class RefusedTest {
                 Bench.same("the other END is as it was", b.about(1 - end, 0, 1, 2, 3, 4, 5, 6, 7, 8, 9, 10, 11, 12, 13, 14, 15, 16, 17), others);
             }
         }
+        Bench.same("packets stood on the line both ways ahead of a send", packetsBothWays, true);
     }
 }

@@ -2,12 +2,14 @@
 public final class SenderBoundsTest {
     public static void main(String[] args) {
         startAlone();
+        startAnew();
         windows();
         fewerThanTheWindow();
         windowMovesWithTheOldest();
         windowBehindSixtyThree();
         othersWhenNothingIsUnderWay();
         noBytes();
+        attributesOfBoth();
         refusedByTheFirstByte();
         refusedByMoreBytes();
         refusedAmongOthers();
@@ -53,6 +55,31 @@ public final class SenderBoundsTest {
             Bench.same("Y of SEQ " + seq, c.x.deliver(0) + " " + c.x.line(1) + " " + c.about(0, 0, 2, 3, 10), seq + " 0 1 1 1 -1");
         }
         Bench.same("Y of SEQ 0", b.x.deliver(0) + " " + b.heads(1) + " " + b.about(0, 0, 2, 3), "0 1F 1 2 1");
+    }
+
+    /** What an END had under way when it FAILED is not under way when it sends again. */
+    private static void startAnew() {
+        Bench b = withDs(4, 20);
+        b.clear(1);
+        for (int i = 0; i < 6; i++) {
+            b.x.timer(0);
+        }
+        Bench.same("FAILED", b.about(0, 0, 1, 3), "4 84 0");
+        b.x.send(0, 0, 1);
+        Bench.same("S alone is under way", b.heads(1) + " " + b.about(0, 0, 1, 2, 3), "0S 1 0 1 1");
+        b.clear(1);
+        Bench.same("the timer", b.x.timer(0) + " " + b.heads(1), "1 0S");
+        Bench.rounds(b, 1);
+        Bench.same("F alone", b.heads(1) + " " + b.about(0, 2, 3), "1F 2 1");
+        b.clear(1);
+        for (int seq = 2; seq <= 5; seq++) {
+            b.reply(seq, 'Y', 1);
+        }
+        b.reply(3, 'N', 1);
+        Bench.same("Y and N of what was under way: nothing", b.x.line(1) + " " + b.about(0, 2, 3), "0 2 1");
+        b.x.timer(0);
+        Bench.rounds(b, 1);
+        Bench.same("D's from 2 on", b.heads(1) + " " + b.about(0, 2, 3), "2D 3D 4D 5D 6 4");
     }
 
     /** "their SEQ less its SEQ, MOD 64, is below the WINDOW". */
@@ -146,6 +173,19 @@ public final class SenderBoundsTest {
                 Bench.same("FILES " + d[0] + ", CAPAS " + capas, types, capas == 4 ? d[1] : d[1].replace("F", "FA"));
                 Bench.same("both DONE", b.about(0, 0, 4) + " " + b.about(1, 0, 4), "3 " + b.x.about(0, 16) + " 3 " + b.x.about(0, 16));
             }
+        }
+    }
+
+    /** "with bit 8 of CAPAS agreed on A": of both, not of one. */
+    private static void attributesOfBoth() {
+        for (int bits = 0; bits < 4; bits++) {
+            Bench b = new Bench().setBoth(2, 1);
+            b.x.set(0, 4, (bits & 1) * 8);
+            b.x.set(1, 4, (bits & 2) * 4);
+            b.store(0, "A", "a", 1);
+            b.x.send(0, 0, 1);
+            Bench.rounds(b, 2);
+            Bench.same("behind F, bits " + bits, b.heads(1), bits == 3 ? "2A" : "2D");
         }
     }
 

@@ -50,8 +50,10 @@ public final class SenderTest {
 
     private static void withoutAttributes() {
         Bench b = Bench.sending(4, 8, "", "a");
+        b.store(1, "OLD", "", 5);
+        b.x.drop(1, 0);
         Bench.same("without A", trace(b), "SFZFDZB");
-        Bench.same("no DATE", b.x.told(1, 1, 1), 0);
+        Bench.same("no DATE", b.x.told(1, 0, 1) + " " + b.x.told(1, 1, 1), "0 0");
     }
 
     private static void seqGoesRound() {
